@@ -226,8 +226,8 @@ public final class DebtDoors {
             case 1: return ledger.creditor[debt];
             case 2: return ledger.amount[debt];
             case 3: return ledger.since[debt];
-            case 4: return rules.priceOf(town, debt);
-            case 5: return rules.growthOf(town, debt);
+            case 4: return rules.ofDebt(town, debt, SELLS);
+            case 5: return rules.ofDebt(town, debt, GROWS);
             default: return NONE;
         }
     }
@@ -487,7 +487,7 @@ public final class DebtDoors {
             return refuse(ABSENT);
         }
         int seller = ledger.creditor[debt];
-        int price = rules.priceOf(town, debt);
+        int price = rules.ofDebt(town, debt, SELLS);
         if (buyer == seller || buyer == ledger.debtor[debt] || !ledger.canPay(buyer, seller, price)) {
             return refuse(CANNOT_BE);
         }
@@ -574,7 +574,7 @@ public final class DebtDoors {
         int grown = 0;
         for (int d = 0; d < ledger.debts; d++) {
             // Asked here, not ahead of all: what has grown already is owed when the next one is asked.
-            int more = ledger.amount[d] * rules.growthOf(town, d) / 100;
+            int more = ledger.amount[d] * rules.ofDebt(town, d, GROWS) / 100;
             more = Math.min(more, MAX_MONEY - ledger.amount[d]);
             ledger.amount[d] += more;
             grown += more;
@@ -946,7 +946,8 @@ public final class DebtDoors {
     }
 
     private static int column(int[] program, int clause, int which) {
-        return program[columnPlace(clause, which)];
+        int place = columnPlace(clause, which);
+        return between(place, 0, program.length - 1) ? program[place] : 0;
     }
 
     private static int columnPlace(int clause, int which) {
@@ -1416,36 +1417,31 @@ public final class DebtDoors {
                 turned = !turned;
                 next();
             }
-            if (!(isSign('(') ? bracketedTest(brackets) : comparison(brackets))) {
-                return false;
+            if (isSign('(')) {
+                if (brackets >= MAX_BRACKETS) {
+                    return fail();
+                }
+                next();
+                if (!test(brackets + 1) || !takeSign(')')) {
+                    return false;
+                }
+            } else {
+                if (!sum(brackets)) {
+                    return false;
+                }
+                int operation = isSign('<') ? LESS : isSign('>') ? GREATER : EQUAL;
+                if (operation == EQUAL && !isSign('=')) {
+                    return fail();
+                }
+                next();
+                if (!sum(brackets)) {
+                    return false;
+                }
+                write(operation, 0);
             }
             if (turned) {
                 write(NOT, 0);
             }
-            return true;
-        }
-
-        private boolean bracketedTest(int brackets) {
-            if (brackets >= MAX_BRACKETS) {
-                return fail();
-            }
-            next();
-            return test(brackets + 1) && takeSign(')');
-        }
-
-        private boolean comparison(int brackets) {
-            if (!sum(brackets)) {
-                return false;
-            }
-            int operation = isSign('<') ? LESS : isSign('>') ? GREATER : EQUAL;
-            if (operation == EQUAL && !isSign('=')) {
-                return fail();
-            }
-            next();
-            if (!sum(brackets)) {
-                return false;
-            }
-            write(operation, 0);
             return true;
         }
 
@@ -1644,27 +1640,22 @@ public final class DebtDoors {
             return owed == 0 ? 0 : Math.min(rooms, 1 + owed / 100);
         }
 
-        int growthOf(Town town, int debt) {
-            int told = toldOfDebt(town, debt, GROWS);
-            return told == UNTOLD ? 0 : nearest(told, 0, MAX_GROWTH);
-        }
-
-        int priceOf(Town town, int debt) {
-            int told = toldOfDebt(town, debt, SELLS);
-            return told == UNTOLD ? town.ledger.amount[debt] : nearest(told, 0, MAX_MONEY);
-        }
-
-        private int toldOfDebt(Town town, int debt, int kind) {
-            if (town.force == NONE) {
-                return UNTOLD;
-            }
+        /** How a debt grows (GROWS), or for what it is sold (SELLS). */
+        int ofDebt(Town town, int debt, int kind) {
             Ledger ledger = town.ledger;
-            int debtor = ledger.debtor[debt];
-            int creditor = ledger.creditor[debt];
-            fillWords(town, debtor, creditor, ledger.owed(debtor, creditor), ledger.owed(creditor, debtor));
-            machine.words[6] = ledger.amount[debt];
-            machine.words[7] = ledger.day - ledger.since[debt];
-            return lastTold(town.law[town.force], kind);
+            int amount = ledger.amount[debt];
+            if (town.force != NONE) {
+                int debtor = ledger.debtor[debt];
+                int creditor = ledger.creditor[debt];
+                fillWords(town, debtor, creditor, ledger.owed(debtor, creditor), ledger.owed(creditor, debtor));
+                machine.words[6] = amount;
+                machine.words[7] = ledger.day - ledger.since[debt];
+                int told = lastTold(town.law[town.force], kind);
+                if (told != UNTOLD) {
+                    return nearest(told, 0, kind == GROWS ? MAX_GROWTH : MAX_MONEY);
+                }
+            }
+            return kind == GROWS ? 0 : amount;
         }
 
         /** The words of a law, in the order of LAW_WORDS, as they are asked of an owner and a visitor. */
@@ -1959,7 +1950,7 @@ public final class DebtDoors {
             for (int d = 0; d < ledger.debts; d++) {
                 if (ledger.debtor[d] == house && ledger.creditor[d] != thief) {
                     debt[size] = d;
-                    price[size] = rules.priceOf(town, d);
+                    price[size] = rules.ofDebt(town, d, SELLS);
                     size++;
                 }
             }
@@ -2007,14 +1998,15 @@ public final class DebtDoors {
             for (int d = 0; d < ledger.debts; d++) {
                 owesTo[ledger.debtor[d]] |= 1 << ledger.creditor[d];
             }
-            for (size = 2; size <= town.people; size++) {
+            size = 0;
+            for (int many = 2; many <= town.people; many++) {
                 for (int set = 0; set < 1 << town.people; set++) {
-                    if (Integer.bitCount(set) == size && ringOf(set)) {
+                    if (Integer.bitCount(set) == many && ringOf(set)) {
+                        size = many;
                         return;
                     }
                 }
             }
-            size = 0;
         }
 
         private boolean ringOf(int set) {
