@@ -49,8 +49,9 @@ public final class DebtDoors {
     private static final int MORE = 3;
     private static final int TOLD_COLUMNS = 4;
 
-    // A program: how many clauses, the columns of each clause, then instructions. The sums of a clause
-    // stand from FIRST to SECOND, to THIRD, to TEST, its test from TEST to END.
+    // A program: how many clauses, the columns of each clause, then instructions. The sum of a law's clause
+    // stands from FIRST to SECOND, those of an order from FIRST to SECOND, to THIRD, to TEST, a test from TEST
+    // to END.
     private static final int MAX_CLAUSES = 12;
     private static final int MAX_TIMES = 20;
     private static final int KIND = 0;
@@ -71,7 +72,6 @@ public final class DebtDoors {
     private static final int SELLS = 2;
     private static final int BARS = 3;
     private static final String ORDER_KINDS = "lend repay wait";
-    private static final int LEND = 0;
     private static final int REPAY = 1;
     private static final int WAIT = 2;
 
@@ -380,27 +380,27 @@ public final class DebtDoors {
         }
         undo.hold(town.ledger);
         int kind = column(program, clause, KIND);
-        int told;
-        if (kind == WAIT) {
-            told = nextDay(town, rules);
-        } else {
-            int second = column(program, clause, SECOND);
-            int third = column(program, clause, THIRD);
-            int from = machine.value(program, column(program, clause, FIRST), second);
-            boolean broken = machine.broken;
-            int to = machine.value(program, second, third);
-            broken |= machine.broken;
-            int amount = machine.value(program, third, test);
-            broken |= machine.broken;
-            if (broken) {
-                return CANNOT_BE;
-            }
-            told = kind == LEND ? lendOut(town, from, to, amount) : payBack(town, from, to, amount);
-        }
+        int told = kind == WAIT ? nextDay(town, rules) : runSums(program, clause, kind);
         if (told >= 0) {
-            undo.keep(kind == WAIT ? WAITED : kind == LEND ? LENT : REPAID);
+            undo.keep(kind == WAIT ? WAITED : kind == REPAY ? REPAID : LENT);
         }
         return told;
+    }
+
+    private int runSums(int[] program, int clause, int kind) {
+        Machine machine = rules.machine;
+        int second = column(program, clause, SECOND);
+        int third = column(program, clause, THIRD);
+        int from = machine.value(program, column(program, clause, FIRST), second);
+        boolean broken = machine.broken;
+        int to = machine.value(program, second, third);
+        broken |= machine.broken;
+        int amount = machine.value(program, third, column(program, clause, TEST));
+        broken |= machine.broken;
+        if (broken) {
+            return CANNOT_BE;
+        }
+        return kind == REPAY ? payBack(town, from, to, amount) : lendOut(town, from, to, amount);
     }
 
     private void fillOrderWords(int[] words) {
@@ -1301,7 +1301,10 @@ public final class DebtDoors {
         }
 
         private void mark(int clause, int which, int value) {
-            program[columnPlace(clause, which)] = value;
+            int place = columnPlace(clause, which);
+            if (between(place, 0, PROGRAM - 1)) {
+                program[place] = value;
+            }
         }
 
         private boolean lawClause(int clause) {
@@ -1311,13 +1314,11 @@ public final class DebtDoors {
             }
             next();
             mark(clause, KIND, kind);
-            mark(clause, TIMES, 1);
             mark(clause, FIRST, written);
             if (kind != BARS && !sum(0)) {
                 return false;
             }
             mark(clause, SECOND, written);
-            mark(clause, THIRD, written);
             return maybeTest(clause);
         }
 
@@ -1329,13 +1330,11 @@ public final class DebtDoors {
             next();
             mark(clause, KIND, kind);
             mark(clause, TIMES, 1);
-            mark(clause, FIRST, written);
-            mark(clause, SECOND, written);
-            mark(clause, THIRD, written);
             return (kind == WAIT || threeSums(clause)) && maybeTimes(clause) && maybeTest(clause);
         }
 
         private boolean threeSums(int clause) {
+            mark(clause, FIRST, written);
             if (!sum(0) || !take("to")) {
                 return false;
             }

@@ -1116,7 +1116,15 @@ public final class ModelTest {
         return b.toString();
     }
 
+    static final String[] ORDERS = {
+        "repay 0 to 1 of [owed 0 1 + 1] / 2 times 3; wait; lend 1 to 0 of purse 1 / 3 + 1 if owed 0 1 < 40",
+        "lend 1 to 2 of 5 times 3 if owed 2 1 < 10; repay 2 to 1 of last if done > 0; wait times 4",
+        "lend done to done + 1 of debts * 2 + 1 if purse 0 > 20; repay 2 to 0 of owed 2 0 if owed 2 0 > 0",
+        "wait times 3 if day % 3 > 0; lend 0 to 1 of 7 times 20 if debts < 15; repay 1 to 0 of 3 times 2",
+    };
+
     static String text(boolean orders, int people) {
+        if (orders && draw(3) == 0) return ORDERS[draw(ORDERS.length)];
         int size = draw(12) == 0 ? 12 + draw(3) : 1 + draw(3);
         StringBuilder b = new StringBuilder();
         for (int i = 0; i < size; i++) {
@@ -1348,6 +1356,10 @@ public final class ModelTest {
 
     /** Visits that are in a row one way or another, with purses that settle only so much. */
     static void planScenario() {
+        for (int p = 0; p < m.s.people.size(); p++) {
+            int purse = draw(5) == 0 ? 9900 + draw(100) : draw(120);
+            due("put(" + p + ",0," + purse + ")", x.put(p, 0, purse), m.put(p, 0, purse));
+        }
         for (int i = 6 + draw(6); i > 0; i--) newDebt(draw(7), draw(7), 40 + draw(200));
         maybeLaw();
         for (int i = 2 + draw(5); i > 0; i--) {

@@ -143,7 +143,10 @@ public final class PromisesTest {
         due(1, x.of(1, 1));
         due(99, x.of(1, 2));
         due(100, x.of(1, 0));
+        due(99, x.put(1, 2, 0));
+        due(1, x.put(1, 1, 3));
         refused(-1, x.put(0, 3, 1));
+        refused(-1, x.put(0, 2, -1));
         refused(-1, x.put(0, -1, 1));
         refused(-1, x.put(0, 0, -1));
         refused(-1, x.put(0, 0, 10000));
@@ -377,6 +380,8 @@ public final class PromisesTest {
     static void lawFaults() {
         x = new DebtDoors();
         fault(0, "depthq 1", false);
+        fault(0, "barsz", false);
+        fault(4, "bars0", false);
         fault(0, "Depth 1", false);
         fault(5, "depth", false);
         fault(6, "depth ;", false);
@@ -462,6 +467,8 @@ public final class PromisesTest {
         refused(-3, orders("lend 0 to 1 of 0"));
         refused(-3, orders("lend 0 to 1 of 1 / 0"));
         refused(-3, orders("repay 0 to 1 of 1"));
+        refused(-3, orders("lend 1 / 0 to 1 of 1"));
+        refused(-3, orders("lend 1 to 1 / 0 of 1"));
         x.terms(0, 999);
         refused(-3, orders("wait"));
         refused(-6, orders(""));
@@ -506,6 +513,10 @@ public final class PromisesTest {
         due(1, orders("wait if 1 = 1 or 1 = 1 and 1 = 0"));
         due(0, orders("wait if (1 = 1 or 1 = 1) and 1 = 0"));
         due(0, orders("wait if 7 % 0 = 0"));
+        // What is owed is counted anew each time.
+        x.put(0, 0, 500);
+        due(2, orders("lend 0 to 1 of owed 1 0 times 2"));
+        due(20, x.owes(1, 0));
     }
 
     static void ordersRoom() {
@@ -544,6 +555,10 @@ public final class PromisesTest {
         fault(15, "wait if owed 1 9=1", true);
         fault(14, "wait if purse day=1", true);
         read("wait times 20 if purse 06 > owed 0 6", true);
+        String nested = "[".repeat(8) + "0" + "]".repeat(8);
+        x.person(100, 1, 1);
+        due(-3, orders("lend " + nested + " to " + nested + " of " + nested));
+        due(NONE, x.fault());
         String fifty = "wait if 1" + "+1".repeat(48) + "=";
         read(fifty + "purse 1", true);
         read(fifty + "owed 1 2", true);
@@ -882,6 +897,7 @@ public final class PromisesTest {
         due(1, x.count(1));
         refused(-3, x.undo());
         undoOfRings();
+        undoKept();
         undoForgotten();
     }
 
@@ -906,6 +922,24 @@ public final class PromisesTest {
         due(16, x.count(5));
         due(4, x.undo());
         due(21, x.count(13));
+    }
+
+    /** Of a full row none is lost by what can't be. */
+    static void undoKept() {
+        x = new DebtDoors();
+        people(2);
+        for (int i = 0; i < 17; i++) x.await();
+        refused(-3, x.lend(0, 0, 1));
+        refused(-3, x.repay(0, 1, 1));
+        refused(-3, orders("lend 0 to 1 of 5 times 9; wait times 20; lend 0 to 1 of 999"));
+        due(16, x.count(5));
+        for (int day = 16; day >= 1; day--) {
+            due(4, x.undo());
+            due(day, x.count(13));
+            due(100, x.of(0, 0));
+            due(0, x.count(1));
+        }
+        due(-3, x.undo());
     }
 
     static void undoForgotten() {
@@ -1037,6 +1071,45 @@ public final class PromisesTest {
         due(1, x.lendings(2));
         x.cancel();
         due(0, x.lendings(0));
+        lendingsInRow();
+    }
+
+    static void lendingsInRow() {
+        x = new DebtDoors();
+        x.person(100, 3, 0);
+        x.person(0, 3, 0);
+        x.person(10, 3, 0);
+        x.debt(2, 0, 50);
+        x.debt(0, 2, 40);
+        x.visit(0, 1, 2, 0);
+        x.visit(0, 2, 2, 0);
+        x.visit(2, 0, 2, 0);
+        // 0 first is possible, but then none of the others can be any more.
+        due(3, x.lendings(0));
+        due(210, x.lendings(1));
+        due(1, x.lendings(2));
+        due(1, x.lendings(3));
+        due(2, x.lendings(4));
+        due(0, x.lendings(5));
+        due(NONE, x.lendings(6));
+        // 9,999 just goes.
+        x = new DebtDoors();
+        x.person(500, 3, 0);
+        x.person(9998, 3, 0);
+        x.visit(0, 1, 1, 0);
+        due(1, x.lendings(2));
+        x.put(1, 0, 9999);
+        due(0, x.lendings(2));
+        // Eight of them, in any row.
+        x = new DebtDoors();
+        people(7);
+        for (int p = 1; p < 7; p++) x.visit(0, p, 1, 0);
+        x.visit(1, 0, 1, 0);
+        x.visit(2, 0, 1, 0);
+        due(8, x.lendings(0));
+        due(40320, x.lendings(2));
+        due(7, x.lendings(10));
+        due(NONE, x.lendings(11));
     }
 
     static void plan() {
@@ -1082,6 +1155,19 @@ public final class PromisesTest {
         x.put(2, 0, 9999);
         // Nothing can be paid to a full purse.
         due(6, x.plan(NONE));
+        // A purse that is empty then settles no more: the second of 1 can be behind it.
+        x = new DebtDoors();
+        people(3);
+        x.put(0, 0, 50);
+        x.debt(0, 1, 50);
+        x.debt(0, 2, 50);
+        x.visit(1, 0, 1, 50);
+        x.visit(2, 0, 1, 50);
+        x.visit(2, 0, 1, 0);
+        due(4, x.plan(NONE));
+        due(0, x.plan(0));
+        due(1, x.plan(1));
+        due(2, x.plan(2));
         x.cancel();
         for (int i = 0; i < 8; i++) x.visit(1, 0, 1, i % 2);
         due(40320, x.plan(NONE));
@@ -1557,7 +1643,25 @@ public final class PromisesTest {
         due(20, x.of(2, 2));
         due(50, x.owes(0, 1));
         due(5, x.at(0, 5));
-        // A law told in its place since does not stand in the image.
+        backOfLaws();
+    }
+
+    /** A law told in the place of another one since does not stand in the image. */
+    static void backOfLaws() {
+        x = new DebtDoors();
+        x.image(1);
+        people(2);
+        x.debt(0, 1, 50);
+        x.image(0);
+        law("grows 1");
+        x.force(0);
+        x.image(0);
+        x.back(1);
+        law("grows 2");
+        x.back(0);
+        due(1, x.at(0, 5));
+        law("grows 3");
+        x.image(0);
         law("grows 7");
         law("grows 8");
         x.image(1);
