@@ -468,7 +468,7 @@ public final class PromisesTest {
         refused(-3, orders("lend 0 to 1 of 1 / 0"));
         refused(-3, orders("repay 0 to 1 of 1"));
         refused(-3, orders("lend 1 / 0 to 1 of 1"));
-        refused(-3, orders("lend 1 to 1 / 0 of 1"));
+        refused(-3, orders("lend 2 to 1 / 0 of 1"));
         x.terms(0, 999);
         refused(-3, orders("wait"));
         refused(-6, orders(""));
@@ -931,7 +931,7 @@ public final class PromisesTest {
         for (int i = 0; i < 17; i++) x.await();
         refused(-3, x.lend(0, 0, 1));
         refused(-3, x.repay(0, 1, 1));
-        refused(-3, orders("lend 0 to 1 of 5 times 9; wait times 20; lend 0 to 1 of 999"));
+        refused(-3, orders("wait times 20; lend 0 to 1 of 5 times 12; lend 0 to 1 of 999"));
         due(16, x.count(5));
         for (int day = 16; day >= 1; day--) {
             due(4, x.undo());
@@ -1209,6 +1209,10 @@ public final class PromisesTest {
         due(0, x.thief(3, 0, 1, 0));
         due(1, x.thief(3, 0, 1, 1));
         due(0, x.thief(1, 0, 1, 1));
+        // 3 is owed 1 already: 100 more are enough.
+        rule("sells 0; bars if visitor = 1; depth 3 if visitor = 3 and owner = 0 and back = 0 and owes > 100; depth 0 if owes < 101");
+        due(8, x.thief(3, 0, 3, 1));
+        due(NONE, x.thief(1, 0, 1, 1));
         due(100, x.of(3, 0));
     }
 
@@ -1643,6 +1647,20 @@ public final class PromisesTest {
         due(20, x.of(2, 2));
         due(50, x.owes(0, 1));
         due(5, x.at(0, 5));
+        // The visit is that of 0 into 1, the scuff that of 1 out of the deepest room of 2.
+        x.force(NONE);
+        due(1, x.lendings(0));
+        due(100, x.lendings(1));
+        // All but 200 of 2 to 1, by which 1 would get into the deepest room.
+        due(59, x.secret(NONE));
+        x.sweep();
+        x.scuff(1, 2, 1, 1);
+        x.image(1);
+        x.sweep();
+        x.scuff(0, 2, 1, 1);
+        due(140, x.secret(0));
+        x.back(1);
+        due(150, x.secret(0));
         backOfLaws();
     }
 
