@@ -1217,15 +1217,15 @@ public final class DebtDoors {
             from = at;
             if (at >= length) {
                 token = AT_END;
-            } else if (isLetter(tape[at])) {
+            } else if (tape[at] >= 'a' && tape[at] <= 'z') {
                 token = LETTERS;
-                while (at < length && isLetter(tape[at])) {
+                while (at < length && tape[at] >= 'a' && tape[at] <= 'z') {
                     at++;
                 }
-            } else if (isDigit(tape[at])) {
+            } else if (tape[at] >= '0' && tape[at] <= '9') {
                 token = DIGITS;
                 number = 0;
-                while (at < length && isDigit(tape[at])) {
+                while (at < length && tape[at] >= '0' && tape[at] <= '9') {
                     // Kept just above the most that can be, so that no row of digits runs over.
                     number = Math.min(MAX_NUMBER + 1, number * 10 + tape[at] - '0');
                     at++;
@@ -1235,14 +1235,6 @@ public final class DebtDoors {
                 at++;
             }
             to = at;
-        }
-
-        private static boolean isLetter(int sign) {
-            return sign >= 'a' && sign <= 'z';
-        }
-
-        private static boolean isDigit(int sign) {
-            return sign >= '0' && sign <= '9';
         }
 
         private boolean isSign(int sign) {
@@ -1517,31 +1509,17 @@ public final class DebtDoors {
                 write(WORD, which);
                 return true;
             }
-            int one = takePerson();
-            if (one == NONE) {
-                return false;
+            int people = which == PURSE_WORDS ? 1 : 2;
+            int place = 0;
+            for (int i = 0; i < people; i++) {
+                if (token != DIGITS || number >= MAX_PEOPLE) {
+                    return fail();
+                }
+                place = place * MAX_PEOPLE + number;
+                next();
             }
-            if (which == PURSE_WORDS) {
-                write(WORD, PURSE_WORDS + one);
-                return true;
-            }
-            int another = takePerson();
-            if (another == NONE) {
-                return false;
-            }
-            write(WORD, OWED_WORDS + one * MAX_PEOPLE + another);
+            write(WORD, (which == PURSE_WORDS ? PURSE_WORDS : OWED_WORDS) + place);
             return true;
-        }
-
-        /** A number that can be a person's; NONE, then the token is the fault. */
-        private int takePerson() {
-            if (token != DIGITS || number >= MAX_PEOPLE) {
-                fail();
-                return NONE;
-            }
-            int person = number;
-            next();
-            return person;
         }
     }
 
