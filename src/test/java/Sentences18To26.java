@@ -377,6 +377,42 @@ final class Sentences18To26 extends Sentences {
         refused(-3, x.undo());
     }
 
+    @Says("is undone: 0 .. 5, in that order.")
+    static void p26_undo_ofAllSixteenDebts() {
+        people(3);
+        for (int d = 0; d < 16; d++) {
+            x.terms(0, d);
+            x.debt(0, 1, 10 + d);
+        }
+        int[] before = debts();
+        due(10, x.forgive(0));
+        due(0, x.await());
+        due(7, x.lend(1, 2, 7));
+        dues(new int[] {2, 1, 7, 16}, x.at(15, 0), x.at(15, 1), x.at(15, 2), x.at(15, 3));
+        for (int deed : new int[] {0, 4, 2}) taken(deed, x.undo());
+        dues(before, debts());
+        refused(-3, orders("repay 0 to 1 of 10;wait;lend 1 to 2 of 7;lend 0 to 0 of 1"));
+        dues(before, debts());
+    }
+
+    @Says("16 are kept)")
+    static void p26_undo_refusedDeedsTakeNoneOfThem() {
+        people(2);
+        for (int day = 1; day <= 17; day++) x.await();
+        refused(-3, x.lend(0, 0, 1));
+        refused(-1, x.lend(0, 1, 0));
+        refused(-3, x.repay(0, 1, 1));
+        refused(-2, x.forgive(0));
+        refused(-2, x.sell(0, 1));
+        refused(-3, x.clear());
+        due(16, x.count(5));
+        for (int day = 16; day >= 1; day--) {
+            taken(4, x.undo());
+            due(day, x.count(13));
+        }
+        refused(-3, x.undo());
+    }
+
     @Says("-3 there is none")
     static void p26_undo_minus3_none() {
         refused(-3, x.undo());

@@ -311,6 +311,10 @@ final class Sentences27To35 extends Sentences {
         dues(new int[] {3, 1}, x.party(0), x.party(1));
         rule("bars if owner=3 and visitor=2");
         dues(new int[] {2, 2}, x.party(0), x.party(1));
+        rule("bars if owner=0 and visitor=1;depth 1 if owes>49;depth 0 if owes<50");
+        dues(new int[] {3, 140}, x.party(0), x.party(1));
+        rule("bars if owner<2 and visitor=3;depth 0;depth 1 if owner=0 or owner=3 or owes>9");
+        dues(new int[] {3, 0}, x.party(0), x.party(1));
     }
 
     @Says("the HOUSE (what 0), NEEDS together (1)")

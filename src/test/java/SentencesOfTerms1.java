@@ -160,13 +160,15 @@ final class SentencesOfTerms1 extends Sentences {
     @Says("those behind it move up")
     static void t1_debts_thoseBehindOneInTheMiddleMoveUp() {
         people(4);
-        for (int d = 0; d < 16; d++) x.debt(d % 3, 3, d + 1);
+        for (int d = 0; d < 16; d++) {
+            x.terms(0, 100 + d);
+            x.debt(d % 3, 3, d + 1);
+        }
         due(8, x.forgive(7));
         due(15, x.count(1));
         for (int d = 0; d < 15; d++) {
             int was = d < 7 ? d : d + 1;
-            due(was % 3, x.at(d, 0));
-            due(was + 1, x.at(d, 2));
+            dues(new int[] {was % 3, 3, was + 1, 100 + was}, x.at(d, 0), x.at(d, 1), x.at(d, 2), x.at(d, 3));
         }
         due(15, x.debt(0, 1, 77));
     }

@@ -277,6 +277,36 @@ final class SentencesOfTerms2 extends Sentences {
         ordersFault(10, "lend 1    ");
     }
 
+    @Says("(the end's: the TEXT's length)")
+    static void t2_fault_lawsThatEndTooSoon() {
+        String[] begun = {
+            "depth", "depth 1+", "depth 1-", "depth 1*", "depth 1/", "depth 1%", "depth [", "depth [1", "depth [1+",
+            "depth [[1]", "depth 1 if", "depth 1 if not", "depth 1 if (", "depth 1 if (1=1", "depth 1 if 1",
+            "depth 1 if 1<", "depth 1 if 1>", "depth 1 if 1=1 and", "depth 1 if 1=1 or", "depth 1 if 1=1 and not",
+            "bars if 1+", "bars if 1*", "bars if [1", "bars if (1=1 or", "bars;", "grows", "sells", "bars;sells 1-"};
+        for (String text : begun) {
+            lawFault(text.length(), text);
+            lawFault(text.length() + 1, text + " ?");
+            lawFault(text.length() + 2, text + "  ");
+        }
+        due(0, x.count(4));
+    }
+
+    @Says("(the end's: the TEXT's length)")
+    static void t2_fault_ordersThatEndTooSoon() {
+        String[] begun = {
+            "lend", "repay", "lend 0", "lend 0 to", "lend 0 to 1", "lend 0 to 1 of", "lend 0+", "lend 0 to 1*",
+            "lend 0 to 1 of 5-", "wait times", "wait if", "wait if purse", "wait if owed", "wait if owed 1",
+            "wait if owed 1 2", "wait if day=", "wait if day=0 and", "wait if day=0 or", "wait if not", "wait;",
+            "wait if (day=0", "wait if [day", "lend 0 to 1 of 5 times", "lend 0 to 1 of 5 times 2 if"};
+        for (String text : begun) {
+            ordersFault(text.length(), text);
+            ordersFault(text.length() + 1, text + " ?");
+            ordersFault(text.length() + 2, text + "  ");
+        }
+        due(0, x.count(13));
+    }
+
     // ------------------------------------------------------------------ broken
 
     @Says("Beyond 1,000,000,000 either way, or divided by 0")
@@ -524,7 +554,8 @@ final class SentencesOfTerms2 extends Sentences {
         x.force(law("grows 10"));
         String[] ends = {
             "lend 0 to 1 of 151", "lend 0 to 0 of 1", "lend 0 to 9 of 1", "lend 0-1 to 1 of 1", "lend 0 to 1 of 0",
-            "lend 0 to 1 of 10*1000", "lend 1/0 to 1 of 1", "lend 0 to 1/0 of 1", "lend 0 to 1 of 1/0",
+            "lend 0 to 1 of 10*1000", "lend 1/0 to 1 of 1", "lend 2 to 1/0 of 1", "lend 0 to 1 of 1/0",
+            "repay 1 to 1/0 of 1",
             "repay 0 to 1 of 1", "repay 1 to 1 of 1", "repay 1 to 0 of 0", "repay 7 to 0 of 1", "repay 1 to 0 of 1%0",
             "wait times 20"};
         for (String end : ends) {

@@ -280,6 +280,29 @@ final class SentencesOfTerms3 extends Sentences {
         due(200, x.lendings(1));
     }
 
+    @Says("ROWS in which they can be, one behind the other, as far as PURSES go")
+    static void t3_lendings_theFirstToldIsTheFirstThatCanBe() {
+        people(3, 0);
+        x.put(0, 0, 100);
+        x.visit(0, 1, 2, 0);
+        x.visit(1, 2, 2, 0);
+        dues(new int[] {1, 0, 1}, x.lendings(2), x.lendings(3), x.lendings(4));
+    }
+
+    @Says("ROWS in which they can be")
+    static void t3_lendings_notARowThatLeadsNowhere() {
+        people(3, 0);
+        x.put(0, 0, 100);
+        x.put(2, 0, 10);
+        x.debt(2, 0, 50);
+        x.debt(0, 2, 40);
+        x.visit(0, 1, 2, 0);
+        x.visit(0, 2, 2, 0);
+        x.visit(2, 0, 2, 0);
+        // 100 of 0 to 1 can be first, but then 50 of 0 to 2 and 60 of 2 to 0 can't be any more.
+        dues(new int[] {3, 210, 1, 1, 2, 0}, x.lendings(0), x.lendings(1), x.lendings(2), x.lendings(3), x.lendings(4), x.lendings(5));
+    }
+
     @Says("as far as PURSES go")
     static void t3_lendings_takersPursesToo() {
         people(3, 100);
@@ -355,6 +378,34 @@ final class SentencesOfTerms3 extends Sentences {
         due(24, x.plan(NONE));
     }
 
+    @Says("then the owner REPAYS up to SETTLE")
+    static void t3_visits_whoIsRepaidFirstLeavesTheNextNothing() {
+        people(3);
+        x.put(0, 0, 50);
+        x.debt(0, 1, 50);
+        x.debt(0, 2, 50);
+        x.visit(1, 0, 1, 50);
+        x.visit(2, 0, 1, 50);
+        x.visit(2, 0, 1, 0);
+        // The third can be behind the second if the first took all that 0 has.
+        dues(new int[] {4, 0, 1, 2}, x.plan(NONE), x.plan(0), x.plan(1), x.plan(2));
+    }
+
+    @Says("the VISITOR gets as DEEP as the ROOM, then the owner REPAYS")
+    static void t3_visits_ofTheLastAndTheFirstOfThePeople() {
+        people(7);
+        x.debt(6, 0, 50);
+        x.debt(5, 6, 50);
+        x.visit(0, 6, 1, 50);
+        x.visit(6, 5, 1, 0);
+        dues(new int[] {2, 0, 1}, x.plan(NONE), x.plan(0), x.plan(1));
+        x.visit(6, 0, 1, 0);
+        due(0, x.plan(NONE));
+        rule("depth 1 if back+owes>0;depth 0 if back+owes=0");
+        // Into 0 gets 6 for what 6 owes, until that is settled.
+        dues(new int[] {3, 1, 2, 0}, x.plan(NONE), x.plan(0), x.plan(1), x.plan(2));
+    }
+
     @Says("ROWS in which all VISITS can be, on paper.")
     static void t3_visits_onPaper() {
         people(3);
@@ -383,6 +434,17 @@ final class SentencesOfTerms3 extends Sentences {
         due(4 + 8, x.thief(3, 0, 2, 1));
         due(0, x.thief(3, 0, 1, 0));
         due(0, x.thief(3, 0, 1, 1));
+    }
+
+    @Says("were the thief their CREDITOR, a ROOM is open")
+    static void t3_thief_whatTheThiefOwesIsAsked() {
+        people(3);
+        x.debt(2, 0, 7);
+        x.debt(0, 1, 50);
+        x.debt(1, 0, 9);
+        rule("depth 1 if back=7 and owes=50;depth 0 if not (back=7 and owes=50)");
+        dues(new int[] {50, 2}, x.thief(2, 0, 1, 0), x.thief(2, 0, 1, 1));
+        due(NONE, x.thief(1, 0, 1, 0));
     }
 
     @Says("SOLD for the least together (PURSES aside)")
@@ -518,6 +580,20 @@ final class SentencesOfTerms3 extends Sentences {
         due(1, x.forgive(3));
         due(0, x.ring(0));
         due(6, x.ring(1));
+    }
+
+    @Says("PEOPLE each of whom OWES the next one, the last the first")
+    static void t3_ring_noneAnyMore() {
+        people(7);
+        x.debt(0, 6, 1);
+        x.debt(6, 0, 1);
+        due(2, x.ring(NONE));
+        due(1, x.forgive(0));
+        due(NONE, x.ring(NONE));
+        x.debt(0, 6, 1);
+        due(2, x.ring(NONE));
+        due(1, x.forgive(0));
+        due(NONE, x.ring(NONE));
     }
 
     @Says("begun with the lowest; of alike ones the first as a row.")

@@ -160,6 +160,38 @@ final class SentencesOfTerms4 extends Sentences {
         due(0, repaid ? 0 : 1);
     }
 
+    @Says("all that can be;")
+    static void t4_month_repaidAllOfAPurse() {
+        people(2, 0);
+        x.put(0, 0, 9999);
+        x.debt(0, 1, 9999);
+        // Of 3: 15654, 278656 (0 lends 0), 368992; 9300, 270215 (0 repays 1).
+        taken(0, x.month(3, 1));
+        dues(new int[] {0, 0, 0, 9999, 0, 0}, drawn());
+        x.put(0, 0, 9998);
+        x.put(1, 0, 5000);
+        taken(0, x.month(3, 1));
+        dues(new int[] {4999, -5000, 0, 9999, 5000, 1}, drawn());
+    }
+
+    @Says("on paper: s is")
+    static void t4_month_onPaperOfAllSixteenDebts() {
+        people(3, 500);
+        sixteen();
+        int[] debts = debts();
+        for (int seed = 0; seed < 9; seed++) x.month(seed * 1000, 30);
+        dues(debts, debts());
+        dues(new int[] {500, 500, 500}, purses());
+    }
+
+    /** Debts in all rows between three people, no two alike. */
+    private static void sixteen() {
+        for (int d = 0; d < 16; d++) {
+            x.terms(0, d);
+            x.debt(d % 3, (d + 1 + d % 2) % 3, 10 + d);
+        }
+    }
+
     @Says("then one waits (beyond DAY 999: it ends there).")
     static void t4_month_beyond999ItEnds() {
         for (int day = 996; day <= 999; day++) {
@@ -393,6 +425,40 @@ final class SentencesOfTerms4 extends Sentences {
         due(60, x.of(0, 0));
         due(0, x.back(1));
         due(7, x.of(0, 0));
+    }
+
+    /** All rooms for all things taken; another time all otherwise. */
+    private static void fill(int how) {
+        for (int p = 0; p < 7; p++) x.person(100 + p + how, 3 - how, 90 + p + how);
+        for (int d = 0; d < 16; d++) {
+            if (d == 15) x.terms(0, 50 + how);
+            x.debt((d + how) % 7, (d + 1 + 2 * how) % 7, 20 + d + how);
+        }
+        for (int n = 0; n < 6; n++) law("grows " + (n + 1 + 10 * how));
+        for (int n = 0; n < 8; n++) {
+            x.visit(n % 7, (n + 3 + n / 7) % 7, n == 7 - how ? 2 : 1, n);
+            x.scuff(n % 7, (n + 2) % 7, 3, how);
+        }
+        x.force(5 - how);
+    }
+
+    @Says("BACK to one all that it keeps is as it was then")
+    static void t4_images_ofAFullStreet() {
+        x.image(1);
+        fill(0);
+        x.image(0);
+        String before = all();
+        int[] row = new int[8];
+        for (int i = 0; i < 8; i++) row[i] = x.lendings(3 + i);
+        taken(0, x.back(1));
+        fill(1);
+        taken(0, x.back(0));
+        same(before);
+        for (int i = 0; i < 8; i++) due(row[i], x.lendings(3 + i));
+        for (int n = 0; n < 6; n++) {
+            x.force(n);
+            due(n + 1, x.at(15, 5));
+        }
     }
 
     @Says("BACK to one all that it keeps is as it was then")
