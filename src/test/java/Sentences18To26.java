@@ -216,9 +216,11 @@ final class Sentences18To26 extends Sentences {
     @Says("-3 (DEBTOR, CREDITOR, PURSES).")
     static void p23_sell_minus3() {
         people(3);
-        x.debt(0, 1, 101);
+        x.debt(0, 1, 1);
         refused(-3, x.sell(0, 0));
         refused(-3, x.sell(0, 1));
+        x.forgive(0);
+        x.debt(0, 1, 101);
         refused(-3, x.sell(0, 2));
         x.put(2, 0, 101);
         x.put(1, 0, 9899);
