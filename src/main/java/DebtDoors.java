@@ -99,8 +99,9 @@ public final class DebtDoors {
     private static final int EQUAL = 13;
 
     private static final long MAX_VALUE = 1000000000L;
-    private static final int UNTOLD = Integer.MIN_VALUE;
-    private static final int NOT_RUN = Integer.MIN_VALUE;
+    // Below all that a sum can tell, below all refusals.
+    private static final int UNTOLD = -2000000000;
+    private static final int NOT_RUN = -100;
 
     private final Town town;
     private final Town[] images;
@@ -2011,7 +2012,7 @@ public final class DebtDoors {
         }
 
         int least(Ledger ledger) {
-            int least = Integer.MAX_VALUE;
+            int least = MAX_DEBTS * MAX_MONEY;
             for (int i = 0; i < size; i++) {
                 least = Math.min(least, ledger.owed(ring[i], ring[(i + 1) % size]));
             }

@@ -36,7 +36,7 @@ public final class LanguageTest {
         none("6", bare, "\\b(throw|throws|try|catch|finally|synchronized|assert|instanceof|equals|hashCode|toString)\\b");
         none("2", bare, "->|::|@\\w+");
         none("3", bare, "\\b(double|float|Object|Map|Set|var|volatile|transient|native)\\b");
-        none("4", bare, "\\b(import|package|System\\.(?!arraycopy)\\w+|Arrays|Integer\\.(?!bitCount|numberOfTrailingZeros|MIN_VALUE|MAX_VALUE)\\w+|Math\\.(?!min|max|abs)\\w+)");
+        none("4", bare, "\\b(import|package|System\\.(?!arraycopy)\\w+|Arrays|Integer\\.(?!bitCount|numberOfTrailingZeros)\\w+|Math\\.(?!min|max|abs)\\w+)");
         none("5", bare, "\\bstatic (?!final )(?!class)[\\w\\[\\]]+ \\w+ *[=;]|static *\\{");
         none("3", bare, "\" *\\+|\\+ *\"");
         face();
